@@ -478,7 +478,7 @@ public final class WorkChains {
             case 2: return laws.sure(10, 2);
             case 3: return laws.sure(1, 10);
             case 4: return laws.ask();
-            default: return what >= 10 && what - 10 < laws.size ? laws.number[what - 10] : NO_SUCH;
+            default: return what >= 10 && what - 10 < Math.min(laws.size, LAWS) ? laws.number[what - 10] : NO_SUCH;
         }
     }
 
@@ -717,7 +717,7 @@ public final class WorkChains {
         }
 
         boolean has(int sort, int at) {
-            return at >= 0 && at < PLACES && at < counts[sort];
+            return sort >= 0 && sort < SORTS && at >= 0 && at < PLACES && at < counts[sort];
         }
 
         Net netAt(int at) {
@@ -1104,7 +1104,7 @@ public final class WorkChains {
 
         /** Of some blocks, none without its parent: all work of each and of those behind it. */
         private void sumUp(int some) {
-            for (int k = 0; k <= last; k++) sum[k] = isIn(some, k) ? work[k] : 0;
+            for (int k = 0; k <= last; k++) sum[k] = (some >> k & 1) != 0 ? work[k] : 0;
             for (int k = last; k > 0; k--) sum[parent[k]] += sum[k];
         }
 
@@ -1116,25 +1116,26 @@ public final class WorkChains {
         /** The tip of some whole blocks by a rule; of several, the one of least rank. */
         int choose(int some, int rule, int[] rank) {
             if (rank.length < BLOCKS) return 0;
-            return rule == 0 ? heaviest(some, rank) : chosenByChildren(some, rank);
+            if (rule == 0) return heaviest(some, rank);
+            sumUp(some);
+            return chosenByChildren(some, rank);
         }
 
         private int heaviest(int some, int[] rank) {
             int best = 0;
             for (int k = 1; k <= last; k++) {
-                if (!isIn(some, k) || weight[k] < weight[best]) continue;
+                if ((some >> k & 1) == 0 || weight[k] < weight[best]) continue;
                 if (weight[k] > weight[best] || rank[k] < rank[best]) best = k;
             }
             return best;
         }
 
         private int chosenByChildren(int some, int[] rank) {
-            sumUp(some);
             for (int k = 0; k <= last; k++) favourite[k] = 0;
             for (int k = 1; k <= last; k++) {
                 int p = parent[k];
                 int other = favourite[p];
-                if (!isIn(some, k)) continue;
+                if ((some >> k & 1) == 0) continue;
                 if (other == 0 || sum[k] > sum[other] || sum[k] == sum[other] && rank[k] < rank[other]) favourite[p] = k;
             }
             int tip = 0;
@@ -1145,6 +1146,7 @@ public final class WorkChains {
         /** Any of several can be the first: all ahead of it come first of all. */
         int tips() {
             if (net.rule == 0) return heaviestOnes();
+            sumUp(sound);
             chosenByChildren(sound, BY_NUMBER);
             int reached = 1;
             int tips = 0;

@@ -142,6 +142,15 @@ public final class PromisesTest {
             DUE.due("fault", x.fault(0), 0);
         }
         DUE.due("count", x.count(0), 2);
+        // what stood behind the end is no part of a token
+        Due.put(x, "stepx");
+        x.end(4);
+        DUE.due("a word that is cut", x.text(0, 0), NONE);
+        DUE.due("its place", x.fault(1), 4);
+        Due.put(x, "step 12");
+        x.end(6);
+        DUE.due("a number that is cut", x.text(0, 0), NONE);
+        DUE.due("its place", x.fault(1), 6);
         DUE.due("empty blocks", Due.tell(x, 1, " \n "), 0);
         DUE.due("none but 0", x.block(0, NONE, 0), 0);
         grammar();
@@ -162,6 +171,7 @@ public final class PromisesTest {
         fault(0, "ste 2;", 1, 0);
         fault(0, "step\t2;", 1, 4);
         fault(0, " \n;", 1, 2);
+        fault(0, "stepz 2;", 1, 0);
         fault(0, "step 2;;", 1, 7);
         fault(0, "2;", 1, 0);
         fault(0, "step;", 1, 4);
@@ -666,22 +676,19 @@ public final class PromisesTest {
         odds(x, 9, 11, 2, 11);
         DUE.due("another rule", x.odds(0, 0, 0, 0, 2, false), NONE);
         DUE.due("another rule", x.odds(0, 0, 0, 0, -1, true), NONE);
-        // by rule 1 and step 2 or 4 to 9: 5, by the others: 3; behind 12 deeds by step 2 alone
+        // by rule 1 and step 2 or 4 to 9: 5, by the others: 3, behind the last deed alone
         fits(with("account 0;", BROAD, ALL_COME, ""), 36, NONE, NONE, NONE, 14, 1);
-        oneStep();
+        fits(with("account 0;", two, "head 2;body 2;head 1;" + "rule 0;".repeat(36) + "body 1;", "tip 0 0;"), 36, NONE, NONE, NONE, 40, 1);
+        oneLaw();
     }
 
-    /** One step alone fits: works of two branches stand otherwise by each. */
-    private static void oneStep() {
-        String blocks = "block 0 0 0;block 1 0 0;block 2 0 0;block 0 0 0;block 4 99 0;block 5 99 0;";
-        String feed = "head 1;body 1;head 2;body 2;head 4;body 4;head 5;body 5;head 6;body 6;head 3;body 3;";
-        WorkChains x = with("account 0;", blocks, feed, "tip 10 6;tip 12 6;");
-        Oracle o = new Oracle();
-        o.told.texts.get(0).add(Oracle.read(0, "account 0;".getBytes()));
-        o.told.texts.get(1).add(Oracle.read(1, blocks.getBytes()));
-        o.told.texts.get(2).add(Oracle.read(2, feed.getBytes()));
-        o.told.texts.get(3).add(Oracle.read(3, "tip 10 6;tip 12 6;".getBytes()));
-        for (int what = 0; what < 50; what++) DUE.due("fits " + what, x.fits(0, 0, 0, 0, what), o.fits(0, 0, 0, 0, what));
+    /** One law alone fits: by step 2 alone 3 and 5 weigh the same, and then rule 0 and tie 0 choose 5. */
+    private static void oneLaw() {
+        String blocks = "block 0 4 0;block 1 10 0;block 2 13 0;block 0 2 0;block 4 7 0;";
+        String feed = "head 3;body 3;head 5;body 5;head 1;body 1;head 4;body 4;head 2;body 2;";
+        WorkChains x = with("account 0;target 4;", blocks, feed, "tip 10 5;");
+        fits(x, 1, 0, 0, 2, 0, 2);
+        odds(x, 1, 1, 0, 1);
     }
 
     private static void fits(WorkChains x, int... due) {
