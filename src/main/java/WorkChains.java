@@ -1324,8 +1324,9 @@ public final class WorkChains {
             return true;
         }
 
+        /** A rule that is the one already is not another one, so such a deed can't be. */
         private boolean may(int sort, int number) {
-            if (sort == NEW_RULE) return number == 0 || number == 1;
+            if (sort == NEW_RULE) return number != rule && (number == 0 || number == 1);
             if (number < 1 || number > chart.last) return false;
             if (sort == HEAD) return !isIn(heads, number);
             if (sort == BODY) return !isIn(bodies, number);

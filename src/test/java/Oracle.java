@@ -398,8 +398,11 @@ final class Oracle {
         }
 
         boolean act(String word, int number) {
-            if (word.equals("rule")) rule = number;
-            else {
+            if (word.equals("rule")) {
+                boolean another = rule != number;
+                rule = number;
+                if (!another) return false;
+            } else {
                 Block b = at(all, number);
                 if (b == null || b.number == 0) return false;
                 if (word.equals("head") && !heads.add(b)) return false;

@@ -76,9 +76,20 @@ public final class OracleTest {
         }
         if (one(2)) Collections.shuffle(deeds, random);
         for (int i = below(4); i > 0; i--) deeds.add(below(deeds.size() + 1), one(3) ? "drop " + (1 + below(size)) : "rule " + below(2));
+        alternateRules(deeds);
         StringBuilder s = new StringBuilder();
         for (String d : deeds.subList(0, Math.min(40, deeds.size()))) s.append(d).append(';');
         return s.toString();
+    }
+
+    /** Most rules are another one than that ahead, so that feeds go on, but some are not. */
+    private static void alternateRules(List<String> deeds) {
+        int rule = below(2);
+        for (int i = 0; i < deeds.size(); i++) {
+            if (!deeds.get(i).startsWith("rule")) continue;
+            if (!one(5)) deeds.set(i, "rule " + (1 - rule));
+            rule = deeds.get(i).charAt(5) - '0';
+        }
     }
 
     /** A text that is spoiled at some places. */

@@ -23,6 +23,7 @@ public final class PromisesTest {
         netsAndBlocks();
         rows();
         stopAndState();
+        anotherRule();
         tiesAndRules();
         orphansAndDrops();
         works();
@@ -35,6 +36,7 @@ public final class PromisesTest {
         owns();
         chances();
         laws();
+        lawsAndRules();
         draws();
         leaves();
         roots();
@@ -341,7 +343,6 @@ public final class PromisesTest {
         stops("drop 1;", 0);
         stops("head 1;drop 1;drop 1;", 2);
         stops("head 1;drop 1;head 1;body 1;drop 1;", 4);
-        stops("rule 0;rule 1;rule 1;", 3);
         stops("", 0);
         stops("head 6;body 6;drop 6;body 6;", 4);
     }
@@ -360,6 +361,40 @@ public final class PromisesTest {
         DUE.due("stop of " + feed, x.stop(0, 0, 0), stop);
         DUE.due("state at stop of " + feed, x.state(0, 0, 0, stop, 0) >= 0, true);
         DUE.due("state past stop of " + feed, x.state(0, 0, 0, stop + 1, 0), NONE);
+    }
+
+    /** A rule that is the one already is not another one: such a deed can't be, whatever goes deed by deed. */
+    private static void anotherRule() {
+        stops("rule 0;", 0);
+        stops("rule 0;rule 1;", 0);
+        stops("rule 1;rule 1;", 1);
+        stops("rule 1;rule 0;rule 1;rule 0;", 4);
+        stops("rule 1;head 1;rule 1;head 2;", 2);
+        stops("head 1;rule 00;head 2;", 1);
+        String two = "block 0 0 0;block 0 0 0;";
+        WorkChains x = with("account 0;rule 1;", two, "rule 1;rule 0;", "");
+        DUE.due("by a net's rule 1", x.stop(0, 0, 0), 0);
+        DUE.due("by a net's rule 1", x.state(0, 0, 0, 0, 6), 1);
+        DUE.due("by a net's rule 1", x.state(0, 0, 0, 1, 6), NONE);
+        DUE.due("0 is another one", with("account 0;rule 1;", two, "rule 0;rule 0;", "").stop(0, 0, 0), 1);
+        x = with("account 0;", two, "head 2;rule 0;body 2;", "");
+        DUE.due("no tip", x.after(0, 0, 0, 5), NONE);
+        DUE.due("none done", x.after(0, 0, 0, 2), 0);
+        DUE.due("waiting", x.after(0, 0, 0, 4), 4);
+    }
+
+    /** By a law a deed can't be, if its rule is the law's already. */
+    private static void lawsAndRules() {
+        String one = "block 0 0 0;";
+        // by laws of rule 1 there is no state behind deed 2; all others tip 1
+        fits(with("account 0;", one, "head 1;body 1;rule 1;", ""), 36, NONE, NONE, NONE, 3, 1);
+        fits(with("account 0;rule 1;", one, "head 1;rule 1;body 1;", "tip 3 1;"), 18, 0, NONE, NONE, 0, 1);
+        fits(with("account 0;", one, "head 1;rule 0;body 1;", "tip 3 1;"), 18, 1, NONE, NONE, 0, 21);
+        fits(with("account 0;", one, "head 1;rule 0;body 1;", "tip 1 0;"), 36, NONE, NONE, NONE, 2, 1);
+        fits(with("account 0;", one, "rule 0;rule 1;rule 1;", "tip 3 0;"), 0, NONE, NONE, NONE, NONE, -2);
+        WorkChains x = with("account 0;", one, "rule 0;rule 1;", "tip 2 0;");
+        fits(x, 18, 1, NONE, NONE, 0, 21);
+        odds(x, 0, 1, 1, 1);
     }
 
     private static void tiesAndRules() {
@@ -646,6 +681,13 @@ public final class PromisesTest {
     // 22, 30
     private static void laws() {
         WorkChains x = sample();
+        // deed 7 is "rule 1": by laws of rule 1 there is no state behind 9
+        fits(x, 18, 0, NONE, NONE, 0, 1);
+        DUE.due("18th", x.fits(0, 0, 0, 0, 27), 19);
+        DUE.due("no 19th", x.fits(0, 0, 0, 0, 28), -2);
+        odds(x, 1, 1, 0, 1);
+        Due.put(x, "tip 6 2;");
+        x.text(3, 0);
         DUE.due("all fit", x.fits(0, 0, 0, 0, 0), 36);
         for (int k = 0; k < 36; k++) DUE.due("law " + k, x.fits(0, 0, 0, 0, 10 + k), 20 * (k / 18) + 10 * (k / 9 % 2) + k % 9 + 1);
         DUE.due("no more", x.fits(0, 0, 0, 0, 46), -2);
@@ -678,7 +720,7 @@ public final class PromisesTest {
         DUE.due("another rule", x.odds(0, 0, 0, 0, -1, true), NONE);
         // by rule 1 and step 2 or 4 to 9: 5, by the others: 3, behind the last deed alone
         fits(with("account 0;", BROAD, ALL_COME, ""), 36, NONE, NONE, NONE, 14, 1);
-        fits(with("account 0;", two, "head 2;body 2;head 1;" + "rule 0;".repeat(36) + "body 1;", "tip 0 0;"), 36, NONE, NONE, NONE, 40, 1);
+        fits(with("account 0;", two, "head 2;body 2;head 1;" + "drop 1;head 1;".repeat(18) + "body 1;", "tip 0 0;"), 36, NONE, NONE, NONE, 40, 1);
         oneLaw();
     }
 
