@@ -1,7 +1,15 @@
+import java.io.IOException;
+import java.nio.file.Files;
+import java.nio.file.Path;
+
 /** What the tests share: counting right and wrong answers, and telling texts to an object. */
 final class Due {
     private int right;
     private int wrong;
+    private String document = "";
+    private String sentence = "";
+    private int sentences;
+    private int atSentence;
 
     void due(String call, long got, long want) {
         if (got == want) {
@@ -9,7 +17,29 @@ final class Due {
             return;
         }
         wrong++;
-        if (wrong <= 20) System.out.println(call + " answered " + got + ", due is " + want);
+        if (wrong <= 20) System.out.println(sentence + call + " answered " + got + ", due is " + want);
+    }
+
+    /** The document that the sentences are of. */
+    void read(String path) throws IOException {
+        document = Files.readString(Path.of(path)).replaceAll("\\s+", " ");
+    }
+
+    /** What follows is the test of this sentence, which has to stand in the document, word by word. */
+    void says(String words) {
+        heard();
+        sentence = "'" + words + "': ";
+        sentences++;
+        atSentence = right + wrong;
+        if (document.contains(words)) return;
+        wrong++;
+        System.out.println(sentence + "does not stand in the document");
+    }
+
+    private void heard() {
+        if (sentences == 0 || atSentence < right + wrong) return;
+        wrong++;
+        System.out.println(sentence + "has no test");
     }
 
     void due(String call, boolean got, boolean want) {
@@ -18,7 +48,9 @@ final class Due {
 
     /** Ends the test: its exit code is 1 if an answer was wrong. */
     void close(String test) {
-        System.out.println(test + ": " + right + " answers as due, " + wrong + " not");
+        heard();
+        String of = sentences == 0 ? "" : " of " + sentences + " sentences";
+        System.out.println(test + ": " + right + " answers" + of + " as due, " + wrong + " not");
         if (wrong != 0 || right == 0) System.exit(1);
     }
 
