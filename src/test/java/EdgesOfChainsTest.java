@@ -311,8 +311,8 @@ public final class EdgesOfChainsTest {
         state(net, BROAD, comes(1, 2, 4, 5, 6, 7), 0, 2);
         state(net, BROAD, comes(4, 5, 6, 7, 1, 2), 0, 5);
         state(net, BROAD, comes(3, 2), 0, 0);
-        // less work by far, though higher: 2 has a 4th of that of 1, and all of them together is what counts
-        state("account 0;step 1;target 1;start 99;", "block 0 9 0;block 1 9 0;block 0 9 0;", comes(1, 2, 3), 0, 2);
+        // 2 is of less work than 3, but all ahead of it counts
+        state("account 0;target 1;start 99;", "block 0 9 0;block 1 9 0;block 0 9 0;", comes(1, 2, 3), 0, 2);
         DUE.says("by RULE 1: from BLOCK 0 on always the WHOLE child of which all WORK of WHOLE BLOCKS, its own and of all behind it, is most, till there is none.");
         state(net + "rule 1;", BROAD, "", 0, 0);
         state(net + "rule 1;", BROAD, comes(1, 2, 3, 4, 5, 6, 7), 0, 5);
@@ -497,7 +497,7 @@ public final class EdgesOfChainsTest {
         own("account 0;", BAD.replace(" 5 0", " 5 1"), 0, 0, 0, NONE, NONE);
         own("account 0;account 0;account 0;step 9;start 6;", "block 0 0 0;block 1 0 1;block 2 0 0;block 3 0 1;", 1, 1, 2, 1, 2);
         own("account 0;account 0;account 0;step 9;start 6;", "block 0 0 0;block 1 0 1;block 2 0 0;block 3 0 1;", 2, 4, 0, 0, 1);
-        // works 8, 32, 128: past 32 bits none of it, but in least terms
+        // works 8, 32, 128: 136 of 168
         own("account 0;account 0;step 1;start 2;", "block 0 0 0;block 1 0 1;block 2 0 0;", 0, 0, 2, 17, 21);
         long[] big = {99L << 28, 0};
         for (int k = 1; k < 15; k++) big[1] += 99L << 2 * k;
@@ -902,7 +902,7 @@ public final class EdgesOfChainsTest {
         DUE.says("An object is used for at most 512 calls after it has been made; what later calls answer is free.");
         String all = comes(1, 2, 3, 4, 5, 6, 7) + "rule 1;rule 0;";
         WorkChains x = with("account 9;account 0;step 9;", BROAD, all, "tip 14 5;", "pay 0 1 1 1;pay 0 1 1 2;pay 0 1 1 3;");
-        // fewer than 100 calls told that
+        // the texts took fewer than 100 calls
         for (int call = 100; call < 508; call += 4) {
             DUE.due("fits, call " + call, x.fits(0, 0, 0, 0, 1), 1);
             DUE.due("late, call " + call, x.leaves(0, 0, 6), 0);
@@ -917,7 +917,7 @@ public final class EdgesOfChainsTest {
 
     // ---- promises: there is none such, and other whats
 
-    /** A net of two accounts, blocks 0 to 4 of which 2, 3, 4 are not sound, a feed, a log and a pool. */
+    /** A net of one account, blocks 0 to 4 of which 2, 3, 4 are not sound, a feed, a log and a pool. */
     private static WorkChains bad() {
         return with("account 9;", BAD, comes(1, 2), "", "pay 0 1 1 1;");
     }
